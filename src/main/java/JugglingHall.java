@@ -422,8 +422,8 @@ public final class JugglingHall {
             if (jugglers != 1) {
                 return false;
             }
-            for (int cell = 1; cell < cellCount(); cell += HANDS) {
-                if (isThrow(cell)) {
+            for (int beat = 0; beat < length; beat++) {
+                if (cells[beat * width + 1] != 0) {
                     return false;
                 }
             }
@@ -471,7 +471,7 @@ public final class JugglingHall {
             if (from < 0 || more < 0 || to > other.length || (length + more) * width > cells.length) {
                 return false;
             }
-            System.arraycopy(other.cells, from * width, cells, cellCount(), more * width);
+            System.arraycopy(other.cells, from * width, cells, length * width, more * width);
             length += more;
             return true;
         }
@@ -632,6 +632,7 @@ public final class JugglingHall {
 
         private final Tape tape;
         private final int[] kinds = new int[MOST_BYTES + 1];
+        private final int[] values = new int[MOST_BYTES + 1];
         private final int[] starts = new int[MOST_BYTES + 1];
         private int count;
         private int next;
@@ -656,12 +657,12 @@ public final class JugglingHall {
                     while (at < tape.length && isLetter(tape.byteAt(at))) {
                         at++;
                     }
-                    keep(wordKind(from, at), from);
+                    keep(wordKind(from, at), sign - 'A', from);
                 } else if (sign != 32 && sign != 10) {
-                    keep(signKind(sign), from);
+                    keep(signKind(sign), sign - '0', from);
                 }
             }
-            keep(END, tape.length);
+            keep(END, 0, tape.length);
             next = 0;
             start = 0;
             advance();
@@ -672,16 +673,17 @@ public final class JugglingHall {
             lastStart = start;
             if (next < count) {
                 kind = kinds[next];
+                value = values[next];
                 start = starts[next];
                 next++;
             }
-            int sign = tape.byteAt(start);
-            value = kind == LETTER ? sign - 'A' : sign - '0';
         }
 
-        private void keep(int found, int from) {
+        /** The value is meant for digits and letters alone. */
+        private void keep(int found, int worth, int from) {
             if (count < kinds.length) {
                 kinds[count] = found;
+                values[count] = worth;
                 starts[count] = from;
                 count++;
             }
