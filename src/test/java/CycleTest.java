@@ -71,6 +71,11 @@ public final class CycleTest {
         check.same("the greater height first", hall.caught(0, 4, 0, 0, 0), 0);
         check.same("the lower height second", hall.caught(0, 4, 0, 1, 0), 3);
         check.same("number", hall.caught(0, 5, 0, 0, 2), 1);
+        // the same row begun with the 1: on beat 1 land the 1 of beat 0 and the 4 of beat 1
+        hall = hall(1, "1[43]");
+        check.same("the greater height first", hall.caught(0, 5, 0, 0, 0), 1);
+        check.same("the lower height second", hall.caught(0, 5, 0, 1, 0), 4);
+        check.same("cycles", hall.cycles(0), 2);
         // both land on beat 0 at 1 with height 2: the one from the lower juggler first
         hall = hall(2, "<2p1|[2p1 2p0]>");
         check.same("from the lower juggler first", hall.caught(0, 2, 1, 0, 1), 0);

@@ -58,6 +58,13 @@ public final class DropTest {
         check.same("only 22 are there", hall.cycles(1), 22);
         check.same("the 23rd isn't", hall.drop(1, 1 << 22, 1), NONE);
         check.same("the 22nd is", hall.drop(1, 1 << 21, 1), 4);
+        JugglingHall two = new JugglingHall(2);
+        check.taken(two, "row A=<[88]|[88]>*8;");
+        check.same("cycles", two.cycles(0), 32);
+        check.same("the last of 32", two.drop(0, Integer.MIN_VALUE, 1), 2);
+        check.same("it was the last throw", two.thrown(1, 7, 1, 1, 0), 0);
+        check.same("all 32", two.drop(0, -1, 2), 3);
+        check.same("balls", two.good(2, 3), 0);
     }
 
     private static void dropOthers() {

@@ -24,6 +24,8 @@ public final class SeenTest {
         for (int[] a : due) {
             check.same("seen(" + a[0] + ")", hall.seen(a[0]), a[1]);
         }
+        check.taken(hall, "row B=3;");
+        check.same("seen stays", hall.seen(0), 3);
         check.taken(hall, "seen 9;");
         check.same("seen(0)", hall.seen(0), 1);
         check.taken(hall, "row A=3;");

@@ -88,6 +88,13 @@ public final class TextTest {
         refused(1, "row\0A=3;", 1, 3);
         refused(1, "row A=3\u00a01;", 1, 7);
         refused(1, "rowA=3;", 1, 0);
+        refused(1, "rowz A=3;", 1, 0);
+        refused(1, "rowZ A=3;", 1, 0);
+        refused(1, "row{A=3;", 1, 3);
+        refused(1, "row@A=3;", 1, 3);
+        refused(1, "row`A=3;", 1, 3);
+        refused(1, "row A=3/;", 1, 7);
+        refused(1, "row A=3:;", 1, 7);
         check.taken(one(), "row A=3;seen3;");
     }
 
