@@ -1105,7 +1105,7 @@ public final class JugglingHall {
         int ballOf(int t, int cell) {
             int beat = t;
             int at = cell;
-            for (int i = 0; i <= LAST_PLAYED && !isStart(beat, at); i++) {
+            for (int i = 0; i <= LAST_PLAYED && at >= 0 && !isStart(beat, at); i++) {
                 at = source[at];
                 beat -= row.height(at);
             }
