@@ -30,20 +30,6 @@ public final class TextTest {
         return new JugglingHall(1);
     }
 
-    private static void refused(int jugglers, String text, int fault, int place) {
-        JugglingHall hall = new JugglingHall(jugglers);
-        hall.look(0);
-        check.told(hall, text, fault, place);
-        check.same("TIME behind \"" + text + "\"", hall.about(1), 0);
-        check.same("letters behind \"" + text + "\"", hall.about(5), 0);
-    }
-
-    private static void row(String sequence, String heights) {
-        JugglingHall hall = one();
-        check.taken(hall, "row A=" + sequence + ";");
-        check.sameText("row of " + sequence, Check.heights(hall, A, 0), heights);
-    }
-
     private static void tellings() {
         JugglingHall hall = one();
         check.taken(hall, "");
@@ -77,24 +63,24 @@ public final class TextTest {
     }
 
     private static void tokens() {
-        row("\n5 3\n 1 ", "531");
-        row("531", "531");
-        row(" 5 * 2 ( 3 ) * 1 turn 1 ( 12 ) ", "55321");
-        row("3p0", "3");
-        row("3 p 0 1", "31");
-        refused(1, "row A=3\t1;", 1, 7);
-        refused(1, "row A=3\r1;", 1, 7);
-        refused(1, "row A=3,1;", 1, 7);
-        refused(1, "row\0A=3;", 1, 3);
-        refused(1, "row A=3\u00a01;", 1, 7);
-        refused(1, "rowA=3;", 1, 0);
-        refused(1, "rowz A=3;", 1, 0);
-        refused(1, "rowZ A=3;", 1, 0);
-        refused(1, "row{A=3;", 1, 3);
-        refused(1, "row@A=3;", 1, 3);
-        refused(1, "row`A=3;", 1, 3);
-        refused(1, "row A=3/;", 1, 7);
-        refused(1, "row A=3:;", 1, 7);
+        check.row("\n5 3\n 1 ", "531");
+        check.row("531", "531");
+        check.row(" 5 * 2 ( 3 ) * 1 turn 1 ( 12 ) ", "55321");
+        check.row("3p0", "3");
+        check.row("3 p 0 1", "31");
+        check.refused(1, "row A=3\t1;", 1, 7);
+        check.refused(1, "row A=3\r1;", 1, 7);
+        check.refused(1, "row A=3,1;", 1, 7);
+        check.refused(1, "row\0A=3;", 1, 3);
+        check.refused(1, "row A=3\u00a01;", 1, 7);
+        check.refused(1, "rowA=3;", 1, 0);
+        check.refused(1, "rowz A=3;", 1, 0);
+        check.refused(1, "rowZ A=3;", 1, 0);
+        check.refused(1, "row{A=3;", 1, 3);
+        check.refused(1, "row@A=3;", 1, 3);
+        check.refused(1, "row`A=3;", 1, 3);
+        check.refused(1, "row A=3/;", 1, 7);
+        check.refused(1, "row A=3:;", 1, 7);
         check.taken(one(), "row A=3;seen3;");
     }
 
@@ -116,64 +102,64 @@ public final class TextTest {
             6, 6, 4, 4, 6, 5, 7, 6, 5,
             0, 11, 8, 8, 9};
         for (int i = 0; i < texts.length; i++) {
-            refused(1, texts[i], 1, places[i]);
+            check.refused(1, texts[i], 1, places[i]);
         }
-        refused(2, "row A=3;", 1, 6);
-        refused(2, "row A=[33];", 1, 6);
-        refused(2, "row A=<3>;", 1, 8);
-        refused(2, "row A=<3|3|3>;", 1, 10);
-        refused(2, "row A=<3 3>;", 1, 9);
-        refused(2, "row A=<|3>;", 1, 7);
-        refused(2, "row A=<3|>;", 1, 9);
-        refused(2, "row A=<3|3;", 1, 10);
-        refused(2, "row A=<[3|3>;", 1, 9);
-        refused(2, "row A=<(3)|3>;", 1, 7);
-        refused(2, "row A=<3*2|3>;", 1, 8);
-        refused(3, "row A=<3|3>;", 1, 10);
-        refused(3, "row A=<3|3|3|3>;", 1, 12);
+        check.refused(2, "row A=3;", 1, 6);
+        check.refused(2, "row A=[33];", 1, 6);
+        check.refused(2, "row A=<3>;", 1, 8);
+        check.refused(2, "row A=<3|3|3>;", 1, 10);
+        check.refused(2, "row A=<3 3>;", 1, 9);
+        check.refused(2, "row A=<|3>;", 1, 7);
+        check.refused(2, "row A=<3|>;", 1, 9);
+        check.refused(2, "row A=<3|3;", 1, 10);
+        check.refused(2, "row A=<[3|3>;", 1, 9);
+        check.refused(2, "row A=<(3)|3>;", 1, 7);
+        check.refused(2, "row A=<3*2|3>;", 1, 8);
+        check.refused(3, "row A=<3|3>;", 1, 10);
+        check.refused(3, "row A=<3|3|3|3>;", 1, 12);
     }
 
     private static void wrongDigits() {
-        refused(1, "row A=3*0;", 2, 8);
-        refused(1, "row A=(31)* 0;", 2, 12);
-        refused(1, "row A=3p1;", 2, 8);
-        refused(1, "row A=0p1;", 2, 8);
-        refused(1, "row A=[3 3p9];", 2, 11);
-        refused(2, "row A=<3p2|3>;", 2, 9);
-        refused(3, "row A=<3p2|3p3|3>;", 2, 13);
+        check.refused(1, "row A=3*0;", 2, 8);
+        check.refused(1, "row A=(31)* 0;", 2, 12);
+        check.refused(1, "row A=3p1;", 2, 8);
+        check.refused(1, "row A=0p1;", 2, 8);
+        check.refused(1, "row A=[3 3p9];", 2, 11);
+        check.refused(2, "row A=<3p2|3>;", 2, 9);
+        check.refused(3, "row A=<3p2|3p3|3>;", 2, 13);
     }
 
     private static void tooDeep() {
-        row("(((((3)))))", "3");
-        row("(((((3)))))(((((1)))))", "31");
-        refused(1, "row A=((((((3))))));", 3, 11);
-        refused(1, "row A=back(over(dual(turn 1((back(3))))));", 3, 33);
-        refused(1, "row A=(((((turn 1(3))))));", 3, 17);
-        refused(1, "row A=(((((turn 3)))));", 1, 17);
-        refused(1, "row A=((((((;", 3, 11);
+        check.row("(((((3)))))", "3");
+        check.row("(((((3)))))(((((1)))))", "31");
+        check.refused(1, "row A=((((((3))))));", 3, 11);
+        check.refused(1, "row A=back(over(dual(turn 1((back(3))))));", 3, 33);
+        check.refused(1, "row A=(((((turn 1(3))))));", 3, 17);
+        check.refused(1, "row A=(((((turn 3)))));", 1, 17);
+        check.refused(1, "row A=((((((;", 3, 11);
     }
 
     private static void tooLong() {
-        row("3*9 3*9 3*6", "333333333333333333333333");
-        refused(1, "row A=3*9 3*9 3*7;", 4, 16);
-        refused(1, "row A=3*9 3*9 3*6 1;", 4, 18);
-        refused(1, "row A=3*9 3*9 3*6 1*2;", 4, 18);
-        refused(1, "row A=3*9 3*9 3*6 1p0;", 4, 20);
-        refused(1, "row A=3*9 3*9 3*6 1 p 0;", 4, 22);
-        refused(1, "row A=3*9 3*9 3*6 1p;", 1, 20);
-        refused(1, "row A=3*9 3*9 3*6 1p1;", 2, 20);
-        refused(1, "row A=3*9 3*9 3*6 1#;", 4, 18);
-        refused(1, "row A=3*9 3*9 3*6[11];", 4, 20);
-        refused(1, "row A=3*9 3*9 3*5 (11);", 4, 21);
-        refused(1, "row A=3*9 3*9 3*5 back(11)*0;", 4, 25);
-        refused(1, "row A=3*9 3*9 3*5 1*2;", 4, 20);
-        refused(1, "row A=(3*9 3*9 3*7);", 4, 17);
-        refused(1, "row A=(33333)*5;", 4, 14);
-        refused(1, "row A=3(33333)*5;", 4, 15);
-        refused(2, "row A=<3|3>*9<3|3>*9<3|3>*6<3|3>;", 4, 31);
-        refused(1, "row A=3*9 3*9;row B=A 3*6;row C=B A;", 4, 34);
-        refused(1, "seen 1234567?;", 4, 12);
-        refused(1, "seen ???????8", 4, 12);
+        check.row("3*9 3*9 3*6", "333333333333333333333333");
+        check.refused(1, "row A=3*9 3*9 3*7;", 4, 16);
+        check.refused(1, "row A=3*9 3*9 3*6 1;", 4, 18);
+        check.refused(1, "row A=3*9 3*9 3*6 1*2;", 4, 18);
+        check.refused(1, "row A=3*9 3*9 3*6 1p0;", 4, 20);
+        check.refused(1, "row A=3*9 3*9 3*6 1 p 0;", 4, 22);
+        check.refused(1, "row A=3*9 3*9 3*6 1p;", 1, 20);
+        check.refused(1, "row A=3*9 3*9 3*6 1p1;", 2, 20);
+        check.refused(1, "row A=3*9 3*9 3*6 1#;", 4, 18);
+        check.refused(1, "row A=3*9 3*9 3*6[11];", 4, 20);
+        check.refused(1, "row A=3*9 3*9 3*5 (11);", 4, 21);
+        check.refused(1, "row A=3*9 3*9 3*5 back(11)*0;", 4, 25);
+        check.refused(1, "row A=3*9 3*9 3*5 1*2;", 4, 20);
+        check.refused(1, "row A=(3*9 3*9 3*7);", 4, 17);
+        check.refused(1, "row A=(33333)*5;", 4, 14);
+        check.refused(1, "row A=3(33333)*5;", 4, 15);
+        check.refused(2, "row A=<3|3>*9<3|3>*9<3|3>*6<3|3>;", 4, 31);
+        check.refused(1, "row A=3*9 3*9;row B=A 3*6;row C=B A;", 4, 34);
+        check.refused(1, "seen 1234567?;", 4, 12);
+        check.refused(1, "seen ???????8", 4, 12);
         JugglingHall hall = one();
         check.taken(hall, "seen ????567;");
         check.same("seen(0)", hall.seen(0), 7);
@@ -184,52 +170,52 @@ public final class TextTest {
     }
 
     private static void cannotChange() {
-        refused(1, "row A=dual([31]);", 5, 15);
-        row("dual([30])", "6");
-        row("dual([00])", "9");
-        refused(2, "row A=dual(<1|1>);", 5, 16);
+        check.refused(1, "row A=dual([31]);", 5, 15);
+        check.row("dual([30])", "6");
+        check.row("dual([00])", "9");
+        check.refused(2, "row A=dual(<1|1>);", 5, 16);
         // three throws that land together can't be thrown back
-        refused(1, "row A=back(321);", 5, 14);
-        row("back(31)", "13");
-        refused(1, "row A=back([33][22]1 );", 5, 21);
-        refused(2, "row A=back(<1p1|[11]>);", 5, 21);
+        check.refused(1, "row A=back(321);", 5, 14);
+        check.row("back(31)", "13");
+        check.refused(1, "row A=back([33][22]1 );", 5, 21);
+        check.refused(2, "row A=back(<1p1|[11]>);", 5, 21);
         // at one token the lesser fault counts
-        refused(1, "row A=3*9 3*9 3*6 dual([11]);", 4, 27);
-        refused(1, "row A=3*9 3*9 3*4 back(321);", 4, 26);
-        refused(1, "row A=3*9 3*9 3*3 back(321);", 5, 26);
+        check.refused(1, "row A=3*9 3*9 3*6 dual([11]);", 4, 27);
+        check.refused(1, "row A=3*9 3*9 3*4 back(321);", 4, 26);
+        check.refused(1, "row A=3*9 3*9 3*3 back(321);", 5, 26);
     }
 
     private static void noRow() {
-        refused(1, "row A=A;", 6, 6);
-        refused(1, "row A=3;row B=A C;", 6, 16);
-        refused(1, "row B=(((A)));", 6, 9);
+        check.refused(1, "row A=A;", 6, 6);
+        check.refused(1, "row A=3;row B=A C;", 6, 16);
+        check.refused(1, "row B=(((A)));", 6, 9);
         JugglingHall hall = one();
         check.told(hall, "row A=3;row B=C;", 6, 14);
         check.told(hall, "row B=A;", 6, 6);
     }
 
     private static void firstAndLeast() {
-        refused(1, "row A=3*0 dual([31]) Z #", 2, 8);
-        refused(1, "row A=# 3*0;", 1, 6);
-        refused(1, "row A=B*0;", 6, 6);
-        refused(1, "seen 12345678#", 4, 12);
+        check.refused(1, "row A=3*0 dual([31]) Z #", 2, 8);
+        check.refused(1, "row A=# 3*0;", 1, 6);
+        check.refused(1, "row A=B*0;", 6, 6);
+        check.refused(1, "seen 12345678#", 4, 12);
     }
 
     private static void changes() {
-        row("turn 0(531)", "531");
-        row("turn 1(531)", "315");
-        row("turn 2(531)", "153");
-        row("turn 7(531)", "315");
-        row("turn 9(5)", "5");
-        row("back(531)", "153");
-        row("back(4413)", "4134");
-        row("over(531)", "531");
-        row("dual(531)", "486");
-        row("dual(900)", "099");
-        row("dual(dual(51234))", "51234");
-        row("back(back(5241))", "5241");
-        row("(31)*2 5", "31315");
-        row("turn 1(dual(441)*2)", "855855");
+        check.row("turn 0(531)", "531");
+        check.row("turn 1(531)", "315");
+        check.row("turn 2(531)", "153");
+        check.row("turn 7(531)", "315");
+        check.row("turn 9(5)", "5");
+        check.row("back(531)", "153");
+        check.row("back(4413)", "4134");
+        check.row("over(531)", "531");
+        check.row("dual(531)", "486");
+        check.row("dual(900)", "099");
+        check.row("dual(dual(51234))", "51234");
+        check.row("back(back(5241))", "5241");
+        check.row("(31)*2 5", "31315");
+        check.row("turn 1(dual(441)*2)", "855855");
     }
 
     private static void severalJugglers() {
