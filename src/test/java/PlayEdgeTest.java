@@ -4,6 +4,7 @@ public final class PlayEdgeTest {
     private static final int A = 0;
     private static final int B = 1;
     private static final int C = 2;
+    private static final int D = 3;
     private static final String ALL_54 = "row A=<[99]|[99]|[99]>;";
 
     private static Check check;
@@ -243,6 +244,8 @@ public final class PlayEdgeTest {
         check.sameText("44, not 53", way(hall, 3, 12), "44");
         check.sameText("555, not 564, 645, ..", way(hall, 7, 28), "555");
         check.sameText("one step, not three", way(hall, 7, 11), "4");
+        check.sameText("one behind the other", way(hall, 2, 4), "03");
+        check.sameText("one behind the other", way(hall, 4, 256), "009");
         check.same("no way to fewer bits", hall.way(7, 3, NONE), NONE);
         check.same("no way from 0", hall.way(0, 1, NONE), NONE);
     }
@@ -332,6 +335,17 @@ public final class PlayEdgeTest {
         check.same("no ? and GOOD", check.hall(1, "seen 531;").whole(3, NONE), 1);
         check.same("seven", check.hall(1, "seen 9999999;").whole(9, NONE), 1);
         check.same("seven open without balls", check.hall(1, "seen ???????;").whole(0, NONE), 1);
+        check.same("seven open with the most", check.hall(1, "seen ???????;").whole(9, NONE), 1);
+        JugglingHall hall = check.hall(1, "seen ?;");
+        check.taken(hall, "seen ???????;");
+        for (int balls = 0; balls <= 9; balls++) {
+            hall.look(2);
+            int seven = hall.whole(balls, NONE);
+            check.same("asked again", hall.whole(balls, NONE), seven);
+            hall.look(1);
+            check.same("of one behind seven", hall.whole(balls, NONE), 1);
+            check.same("asked again", hall.whole(balls, NONE), 1);
+        }
     }
 
     private static void firstByHeights() {
@@ -342,6 +356,9 @@ public final class PlayEdgeTest {
         check.sameText("?1? with 3", whole(check.hall(1, "seen ?1?;"), 3), "018");
         check.sameText("none such", whole(check.hall(1, "seen 43?;"), 3), "---");
         check.sameText("seven", whole(check.hall(1, "seen ???????;"), 1), "0000007");
+        check.sameText("seven with none", whole(check.hall(1, "seen ???????;"), 0), "0000000");
+        check.sameText("seven with the most", whole(check.hall(1, "seen ???????;"), 9), "9999999");
+        check.sameText("a MARK of 0 stays", whole(check.hall(1, "seen 0?0;"), 1), "030");
     }
 
     private static void dropped() {
@@ -368,5 +385,13 @@ public final class PlayEdgeTest {
         for (int[] a : due) {
             check.same("turned(" + a[0] + ", " + a[1] + ")", hall.turned(a[0], a[1]), a[2]);
         }
+        hall = check.hall(1, "row A=531;row B=231;row C=532;");
+        check.same("all but the first BEAT", hall.turned(A, B), NONE);
+        check.same("all but the last BEAT", hall.turned(A, C), NONE);
+        hall = check.hall(2, "row A=<3p1|[12]><3|0>;row B=<3|0><3p1|[12]>;"
+                + "row C=<3|0><3p0|[12]>;row D=<3|0><3p1|[02]>;");
+        check.same("all THROWS of all JUGGLERS", hall.turned(A, B), 1);
+        check.same("but for to whom", hall.turned(A, C), NONE);
+        check.same("but for THROW 1", hall.turned(A, D), NONE);
     }
 }

@@ -167,8 +167,14 @@ public final class TermEdgeTest {
             check.same("BEATS of letter " + letter, hall.beats(letter), letter + 1);
         }
         check.same("letters with a ROW", hall.about(5), 8);
-        check.same("ahead of A", hall.beats(-1), NONE);
-        check.same("behind H", hall.beats(8), NONE);
+        for (int time = 1; time <= 3; time++) {
+            check.same("ahead of A", hall.beats(-1), NONE);
+            check.same("behind H", hall.beats(8), NONE);
+            check.same("text", hall.text(), time + 1);
+        }
+        hall.look(2);
+        check.same("ahead of A at an earlier LOOK", hall.beats(-1), NONE);
+        check.same("behind H at an earlier LOOK", hall.beats(8), NONE);
         check.refused(1, "row I=1;", 1, 4);
         check.refused(1, "row @=1;", 1, 4);
     }

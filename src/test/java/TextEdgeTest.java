@@ -257,6 +257,7 @@ public final class TextEdgeTest {
         check.row("dual(" + "9".repeat(23) + "0)", "09" + "0".repeat(22));
         check.row("dual(0" + "9".repeat(23) + ")", "9" + "0".repeat(23));
         check.row("dual(dual(531))", "531");
+        check.sameText("to itself", Check.throwsOf(check.hall(1, "row A=dual(36);"), A), "<6p0><3p0>");
     }
 
     private static void turn() {
