@@ -6,6 +6,9 @@ public final class PlayEdgeTest {
     private static final int C = 2;
     private static final int D = 3;
     private static final String ALL_54 = "row A=<[99]|[99]|[99]>;";
+    /** Of the six hands a beat, one beat leads two threes round and one joins the threes: all throws are one cycle. */
+    private static final String ONE_CYCLE = "row A=<[11]|[11]|[11]>*9<[11]|[11]|[11]>*9<[11]|[11]|[11]>*4"
+            + "<[1p1 1p1]|[1p2 1p2]|[1p0 1p0]><[1p0 1p1]|[1p0 1p1]|[11]>;";
 
     private static Check check;
 
@@ -141,6 +144,10 @@ public final class PlayEdgeTest {
         hall = check.hall(3, "row A=<[9p1 9p1]|[9p2 9p2]|[9p0 9p0]>*8<[9p1 9p1]|[9p2 9p2]|[9p0 9p0]>*8;");
         check.same("cycles", hall.cycles(A), 2);
         cycle(hall, 1, 48, 432, 27, 0, 0, 1);
+        hall = check.hall(3, ONE_CYCLE);
+        check.same("all THROWS are one CYCLE", hall.cycles(A), 1);
+        cycle(hall, 0, 144, 144, 6, 0, 0, 0);
+        check.same("the last THROW's", hall.cycleOf(A, 23, 2, 1), 0);
     }
 
     private static void played() {
@@ -373,6 +380,11 @@ public final class PlayEdgeTest {
         hall = check.hall(2, "row A=<[42]|3>;");
         check.same("the first of two hands", hall.drop(A, 1, B), 2);
         check.sameText("the other one is number 0", Check.throwsOf(hall, B), "<2p0|3p1>");
+        hall = check.hall(3, ONE_CYCLE);
+        check.same("none of the most THROWS", hall.drop(A, 0, B), 2);
+        check.sameText("as they were", Check.throwsOf(hall, B), Check.throwsOf(hall, A));
+        check.same("all of the most THROWS", hall.drop(A, 1, B), 3);
+        check.sameText("none is left", Check.throwsOf(hall, B), "<0|0|0>".repeat(24));
     }
 
     private static void oneTurned() {

@@ -169,6 +169,9 @@ public final class TextEdgeTest {
     private static void groups() {
         check.sentence("or ( SEQ ), or back, over or dual ( SEQ ), or turn, a digit and ( SEQ ).");
         check.row("(3)back(1)over(5)dual(2)turn 0(4)turn 9(6)", "315746");
+        // each one is of its own SEQ alone, though a longer one was inside a ( ) ahead of it
+        JugglingHall hall = check.hall(1, "row A=(12[34])back(3)over(5)dual(2)turn 1(4)(6);");
+        check.sameText("none has more", Check.throwsOf(hall, A), "<1p0><2p0><4p0 3p0><3p0><5p0><7p0><4p0><6p0>");
         for (String word : new String[] {"back", "over", "dual"}) {
             check.refused(1, "row A=" + word + ";", 1, 10);
             check.refused(1, "row A=" + word + " 3;", 1, 11);
@@ -442,6 +445,9 @@ public final class TextEdgeTest {
         check.same("seen stays", hall.seen(0), 2);
         check.told(hall, "row A=5;seen 7;#", 1, 15);
         check.sameText("one that isn't taken tells nothing", Check.heights(hall, A, 0), "333");
+        check.same("seen stays", hall.seen(0), 2);
+        check.taken(hall, "row B=6;");
+        check.sameText("nor does it with the next one", Check.heights(hall, A, 0), "333");
         check.same("seen stays", hall.seen(0), 2);
     }
 }
